@@ -84,6 +84,11 @@ public final class MachineTest {
     Due.is("now(0)", x.now(0), 3);
     Due.is("now(3): all dry", x.now(3), 0);
     Due.is("now(5): the dry ones too", x.now(5), 255 - 36);
+    x.person(95, 95);
+    Due.is("now(5): some fit two people", x.now(5), 255 - 36);
+    x.set(0, 6, 1);
+    x.set(7, 6, 1);
+    Due.is("now(4): the first and the last, too", x.now(4), 129 + 36);
   }
 
   private static void nowBeyond() {

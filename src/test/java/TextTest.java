@@ -151,7 +151,8 @@ public final class TextTest {
       {"degrees 40 40", "11"}, {"towels 1", "7"}, {"towels none", "7"}, {"none 0", "5"}, {"wash", "4"}, {"wash wool", "5"},
       {"wash ;", "5"}, {"wool;wash 1", "10"}, {"wool;wash 0 0", "12"}, {"wool;wash 8", "10"}, {"size 10 10", "0"},
       {"thick 5", "0"}, {"40", "0"}, {";", "0"}, {" ;wool", "1"}, {"wool;;wool", "5"}, {"wool ; ; wool", "7"}, {"towel", "0"},
-      {"nones", "0"}, {"washes 0", "0"}, {"degree 40", "0"}, {"persons 10 10", "0"}, {"x", "0"}, {"wool;hat", "5"}
+      {"nones", "0"}, {"washes 0", "0"}, {"degree 40", "0"}, {"persons 10 10", "0"}, {"x", "0"}, {"wool;hat", "5"},
+      {"pool", "0"}, {"milk", "0"}, {"rock", "0"}, {"soca", "0"}, {"wash0;", "4"}, {"wool bize 10 10", "5"}
     };
     for (String[] row : rows) {
       Due.is("'" + row[0] + "'", Due.basket(new FeltedWash(), row[0]), -1 - Integer.parseInt(row[1]));
