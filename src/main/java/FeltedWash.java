@@ -255,9 +255,7 @@ public final class FeltedWash {
       return refuse(BEYOND);
     }
     for (int n = 1; n <= MOST_WASHES; n++) {
-      tryWashes(one, n);
-      trial.dryFor(DAYS_TO_DRY);
-      if (trial.suits(wearer)) {
+      if (wouldSuit(one, wearer, n, current.degrees, 0)) {
         return n;
       }
     }
@@ -273,10 +271,7 @@ public final class FeltedWash {
       return refuse(BEYOND);
     }
     for (int degrees = MOST_DEGREES; degrees >= LEAST_DEGREES; degrees--) {
-      trial.become(one);
-      trial.goThroughWash(degrees, current.towels);
-      trial.dryFor(DAYS_TO_DRY);
-      if (trial.suits(wearer)) {
+      if (wouldSuit(one, wearer, 1, degrees, 0)) {
         return degrees;
       }
     }
@@ -290,12 +285,7 @@ public final class FeltedWash {
       return refuse(BEYOND);
     }
     for (int n = 0; n <= MOST_DRAW; n++) {
-      tryWashes(one, 1);
-      if (n > 0) {
-        trial.stretch(n);
-      }
-      trial.dryFor(DAYS_TO_DRY);
-      if (trial.suits(wearer)) {
+      if (wouldSuit(one, wearer, 1, current.degrees, n)) {
         return n;
       }
     }
@@ -561,6 +551,16 @@ public final class FeltedWash {
     trial.goThroughWashes(n, current.degrees, current.towels);
   }
 
+  private boolean wouldSuit(Garment one, Person wearer, int washes, int degrees, int drawnBy) {
+    trial.become(one);
+    trial.goThroughWashes(washes, degrees, current.towels);
+    if (drawnBy > 0) {
+      trial.stretch(drawnBy);
+    }
+    trial.dryFor(DAYS_TO_DRY);
+    return trial.suits(wearer);
+  }
+
   private boolean tryAs(Garment one, int kind) {
     Kind sort = current.kindAt(kind);
     if (sort == null) {
@@ -662,17 +662,14 @@ public final class FeltedWash {
       super(number, above);
     }
 
-    @Override
     int shrinks(int degrees, int towels) {
       return degrees > 40 ? (degrees - 40) / 2 : 0;
     }
 
-    @Override
     int felts(int shrinks) {
       return shrinks / 3;
     }
 
-    @Override
     int bears(int thick, int holes) {
       return super.bears(thick, holes) + thick / 4;
     }
@@ -683,17 +680,14 @@ public final class FeltedWash {
       super(number, above);
     }
 
-    @Override
     int shrinks(int degrees, int towels) {
       return degrees / 20;
     }
 
-    @Override
     int bears(int thick, int holes) {
       return 5;
     }
 
-    @Override
     int keeps() {
       return 20;
     }
@@ -704,17 +698,14 @@ public final class FeltedWash {
       super(number, above);
     }
 
-    @Override
     int shrinks(int degrees, int towels) {
       return degrees > 60 ? 50 : 0;
     }
 
-    @Override
     int bears(int thick, int holes) {
       return super.bears(thick, holes) - 7;
     }
 
-    @Override
     int keeps() {
       return super.keeps() + 50;
     }
@@ -725,23 +716,19 @@ public final class FeltedWash {
       super(number, above);
     }
 
-    @Override
     int shrinks(int degrees, int towels) {
       int asWool = super.shrinks(degrees, towels);
       return towels == 1 ? asWool + asWool : asWool;
     }
 
-    @Override
     int felts(int shrinks) {
       return super.felts(shrinks) + (shrinks > 0 ? 1 : 0);
     }
 
-    @Override
     int bears(int thick, int holes) {
       return 2 * super.bears(thick, holes);
     }
 
-    @Override
     int keeps() {
       return super.keeps() - 10;
     }
@@ -752,17 +739,14 @@ public final class FeltedWash {
       super(number, above);
     }
 
-    @Override
     int shrinks(int degrees, int towels) {
       return super.shrinks(degrees, towels) + (degrees >= 60 ? 1 : 0);
     }
 
-    @Override
     int felts(int shrinks) {
       return super.felts(shrinks) + 2;
     }
 
-    @Override
     int bears(int thick, int holes) {
       return super.bears(thick, holes) + holes;
     }
