@@ -3,11 +3,6 @@ import java.util.Random;
 /** Runs of 512 calls by chance (with seeds, so that they are always the same), held against the Model. */
 public final class ModelTest {
   private static final int RUNS = 3000;
-  private static final String[] CALLS = {
-    "machine", "now", "garment", "of", "set", "wash", "draw", "turn", "as", "person", "size", "fits", "days", "on", "again",
-    "washes", "warmest", "pull", "kind", "dressed", "shortest", "feed", "wipe", "basket", "sheet", "write", "copy", "lays",
-    "book", "read", "image", "undo", "tear", "count", "status"
-  };
   private static final String[] WORDS = {
     "garment", "wool", "cotton", "silk", "jumper", "sock", "person", "degrees", "towels", "none", "wash", "size", "thick", ";",
     " ", "10", "200", "40", "90", "0", "1", "x", "1000", ";;", "A"
@@ -32,7 +27,7 @@ public final class ModelTest {
     Model model = new Model();
     String pending = "";
     for (int n = 0; n < 512; n++) {
-      int call = chance.nextInt(CALLS.length);
+      int call = chance.nextInt(Calls.NAMES.length);
       if (n < 4) {
         call = n % 2 == 0 ? 2 : 9;
       }
@@ -48,10 +43,10 @@ public final class ModelTest {
       }
       long v = number(chance);
       long want = model.answer(call, a[0], a[1], a[2], a[3], a[4], v);
-      long got = ask(x, call, a, v);
+      long got = Calls.ask(x, Calls.NAMES[call], a, v);
       if (got != want) {
         wrong++;
-        System.out.println("seed " + seed + " call " + n + ": " + CALLS[call] + java.util.Arrays.toString(a) + " with " + v
+        System.out.println("seed " + seed + " call " + n + ": " + Calls.NAMES[call] + java.util.Arrays.toString(a) + " with " + v
             + " answered " + got + ", the model " + want);
         return;
       }
@@ -149,7 +144,7 @@ public final class ModelTest {
   }
 
   private static int[] arguments(int call, Random r) {
-    return switch (CALLS[call]) {
+    return switch (Calls.NAMES[call]) {
       case "machine" -> machineArguments(r);
       case "now" -> five(near(r, 0, 5));
       case "garment" -> five(near(r, 0, 5));
@@ -204,45 +199,5 @@ public final class ModelTest {
 
   private static int[] five(int... some) {
     return java.util.Arrays.copyOf(some, 5);
-  }
-
-  private static long ask(FeltedWash x, int call, int[] a, long v) {
-    return switch (CALLS[call]) {
-      case "machine" -> x.machine(a[0], a[1]);
-      case "now" -> x.now(a[0]);
-      case "garment" -> x.garment(a[0]);
-      case "of" -> x.of(a[0], a[1]);
-      case "set" -> x.set(a[0], a[1], a[2]);
-      case "wash" -> x.wash(a[0]);
-      case "draw" -> x.draw(a[0], a[1]);
-      case "turn" -> x.turn(a[0], a[1]);
-      case "as" -> x.as(a[0], a[1]);
-      case "person" -> x.person(a[0], a[1]);
-      case "size" -> x.size(a[0], a[1]);
-      case "fits" -> x.fits(a[0]);
-      case "days" -> x.days(a[0]);
-      case "on" -> x.on(a[0], a[1], a[2]);
-      case "again" -> x.again(a[0], a[1], a[2]);
-      case "washes" -> x.washes(a[0], a[1]);
-      case "warmest" -> x.warmest(a[0], a[1]);
-      case "pull" -> x.pull(a[0], a[1]);
-      case "kind" -> x.kind(a[0], a[1]);
-      case "dressed" -> x.dressed(a[0]);
-      case "shortest" -> x.shortest(a[0]);
-      case "feed" -> x.feed(a[0], a[1]);
-      case "wipe" -> x.wipe();
-      case "basket" -> x.basket();
-      case "sheet" -> x.sheet(a[0], a[1], a[2]);
-      case "write" -> x.write(a[0], a[1], v);
-      case "copy" -> x.copy(a[0], a[1], a[2], a[3], a[4]);
-      case "lays" -> x.lays(a[0]);
-      case "book" -> x.book(a[0], a[1]);
-      case "read" -> x.read(a[0], a[1]);
-      case "image" -> x.image();
-      case "undo" -> x.undo();
-      case "tear" -> x.tear();
-      case "count" -> x.count(a[0]);
-      default -> x.status(a[0]);
-    };
   }
 }
