@@ -9,13 +9,13 @@ import java.util.regex.Pattern;
 /**
  * Sentences of the document, each with runs of calls that stand at its boundary and on both sides of it.
  *
- * <p>A run is told in a text, a call a line, on a new object: {@code set 0 1 201 = BEYOND}. Behind = stands the answer that
- * is due: a number, a finding, or {@code may} for any answer that is no finding. A line without = only leads to the next
- * ones, and is no finding. {@code 8x garment 0 = 7} is eight calls, the last of which answers 7 (a finding: each). {@code type "wool"} feeds
- * a text, {@code basket "wool"} feeds it and calls basket.
+ * <p>A run is told in a text, a call a line (or behind |), on a new object: {@code set 0 1 201 = BEYOND}. Behind = stands
+ * the answer that is due: a number, a finding, or {@code may} for any answer that is no finding. A line without = only
+ * leads to the next ones, and is no finding. {@code 8x garment 0 = 7} is eight calls, the last of which answers 7 (if a
+ * finding is due, each). {@code type 'wool'} feeds a text, {@code basket 'wool'} feeds it and calls basket.
  *
- * <p>Behind each call with an answer, status is asked, and whether anything has changed that the call may not change: with
- * a finding, and with a call that only asks, nothing at all.
+ * <p>Behind each call with an answer, status is asked, and whether anything has changed that the call may not change:
+ * with a finding, and with a call that only asks, nothing at all.
  */
 final class Edge {
   private static final Map<String, Long> NUMBERS = Map.ofEntries(
@@ -35,8 +35,8 @@ final class Edge {
       int equals = line.lastIndexOf(" = ");
       String due = equals < 0 ? "" : line.substring(equals + 3).trim();
       String call = equals < 0 ? line : line.substring(0, equals).trim();
-      int quote = call.indexOf('"');
-      String text = quote < 0 ? null : call.substring(quote + 1, call.lastIndexOf('"'));
+      int quote = call.indexOf('\'');
+      String text = quote < 0 ? null : call.substring(quote + 1, call.lastIndexOf('\''));
       String[] words = (quote < 0 ? call : call.substring(0, quote)).trim().split(" +");
       int[] args = new int[Math.max(5, words.length)];
       long last = 0;
@@ -103,24 +103,33 @@ final class Edge {
 
   static void holds(String sentence, String... runs) {
     for (String run : runs) {
-      runOf(sentence, run);
+      check(sentence, run);
     }
+  }
+
+  /** A run with values put for their names: {@code "sheet $s 8 1", "$s", 3}. */
+  static String run(String told, Object... namesAndValues) {
+    String run = told;
+    for (int i = 0; i + 1 < namesAndValues.length; i += 2) {
+      run = run.replace((String) namesAndValues[i], String.valueOf(namesAndValues[i + 1]));
+    }
+    return run;
   }
 
   /** The values from least to most may stand for * in a call behind a scene, and no other. */
   static void range(String sentence, String scene, String call, int least, int most) {
     for (int v : new int[] {least, most}) {
-      runOf(sentence, scene + "\n" + call.replace("*", Integer.toString(v)) + " = may");
+      check(sentence, scene + " | " + call.replace("*", Integer.toString(v)) + " = may");
     }
     for (int v : new int[] {least - 1, most + 1, Due.MIN, Due.MAX}) {
-      runOf(sentence, scene + "\n" + call.replace("*", Integer.toString(v)) + " = BEYOND");
+      check(sentence, scene + " | " + call.replace("*", Integer.toString(v)) + " = BEYOND");
     }
   }
 
-  private static void runOf(String sentence, String run) {
+  private static void check(String sentence, String run) {
     List<Step> before = new ArrayList<>();
     long[] findings = new long[7];
-    for (String line : run.split("\n")) {
+    for (String line : run.split("[\n|]")) {
       String bare = line.trim();
       if (!bare.isEmpty()) {
         oneLine(sentence, bare, before, findings);

@@ -13,7 +13,7 @@ public final class EdgeDaysTest {
       person 10 200
       sheet 0 64 2
       write 0 0 5
-      type "towels"
+      type 'towels'
       image
       """;
   private static final String EIGHT = "8x garment 0";
@@ -54,7 +54,7 @@ public final class EdgeDaysTest {
         of 0 1 = 94
         """, SCENE + """
         days 3 = 0
-        """, "days 100 = 0 \n now 0 = 100");
+        """, "days 100 = 0 | now 0 = 100");
   }
 
   /** Takes more calls than an object is promised for, as no other way leads there. */
@@ -92,7 +92,7 @@ public final class EdgeDaysTest {
     Edge.range("Promise 15: what 0 to 2", SCENE, "on 0 100 *", 0, 2);
     Edge.range("Promise 15: garments 0 to 2", SCENE, "on * 0 0", 0, 2);
     Edge.range("Promise 15: garments 0 to 7", EIGHT, "on * 100 2", 0, 7);
-    Edge.holds("Promise 15: no garment at all", "on 0 0 0 = BEYOND \n on -1 -1 -1 = BEYOND");
+    Edge.holds("Promise 15: no garment at all", "on 0 0 0 = BEYOND | on -1 -1 -1 = BEYOND");
     Edge.holds("Promise 15: LONG, BROAD, WET, 0 DAYS to 100 AHEAD", SCENE + """
         on 0 0 0 = 100
         on 0 0 1 = 85
@@ -118,7 +118,7 @@ public final class EdgeDaysTest {
     Edge.range("Promise 16: what 0 to 2", SCENE, "again 0 40 *", 0, 2);
     Edge.range("Promise 16: garments 0 to 2", SCENE, "again * 0 0", 0, 2);
     Edge.range("Promise 16: garments 0 to 7", EIGHT, "again * 40 2", 0, 7);
-    Edge.holds("Promise 16: no garment at all", "again 0 0 0 = BEYOND \n again -1 -1 -1 = BEYOND");
+    Edge.holds("Promise 16: no garment at all", "again 0 0 0 = BEYOND | again -1 -1 -1 = BEYOND");
     Edge.holds("Promise 16: LONG, BROAD, THICK, washed 0 times to 40", SCENE + """
         again 0 0 0 = 100
         again 0 0 1 = 85
@@ -216,16 +216,23 @@ public final class EdgeDaysTest {
   private static void warmest() {
     int[][] rows = {
       {0, 0, 100, 100, 100, 95}, {0, 0, 100, 100, 110, 95}, {0, 0, 100, 100, 111, Due.NONE}, {0, 0, 100, 100, 99, Due.NONE},
-      {1, 0, 100, 90, 100, 41}, {1, 0, 99, 90, 100, 43}, {1, 0, 74, 70, 100, 93}, {1, 0, 73, 70, 100, 95}, {1, 0, 101, 90, 100, Due.NONE},
-      {1, 0, 100, 80, 111, 61}, {2, 0, 100, 90, 100, Due.NONE}, {2, 0, 99, 90, 100, 39}, {2, 0, 98, 90, 100, 59},
-      {2, 0, 97, 90, 100, 79}, {2, 0, 96, 90, 100, 95}, {3, 0, 100, 100, 100, 60}, {3, 0, 50, 50, 100, 95}, {3, 0, 51, 50, 100, Due.NONE},
-      {3, 0, 49, 40, 100, 95}, {4, 0, 90, 90, 100, 61}, {4, 1, 90, 90, 100, 51}, {4, 1, 46, 46, 100, 95}, {5, 0, 98, 90, 100, 59},
-      {5, 0, 97, 90, 100, 59}, {5, 0, 96, 90, 100, 79}, {5, 0, 95, 90, 100, 95}
+      {1, 0, 100, 90, 100, 41}, {1, 0, 99, 90, 100, 43}, {1, 0, 74, 70, 100, 93}, {1, 0, 73, 70, 100, 95},
+      {1, 0, 101, 90, 100, Due.NONE}, {1, 0, 100, 80, 111, 61}, {2, 0, 100, 90, 100, Due.NONE}, {2, 0, 99, 90, 100, 39},
+      {2, 0, 98, 90, 100, 59}, {2, 0, 97, 90, 100, 79}, {2, 0, 96, 90, 100, 95}, {3, 0, 100, 100, 100, 60},
+      {3, 0, 50, 50, 100, 95}, {3, 0, 51, 50, 100, Due.NONE}, {3, 0, 49, 40, 100, 95}, {4, 0, 90, 90, 100, 61},
+      {4, 1, 90, 90, 100, 51}, {4, 1, 46, 46, 100, 95}, {5, 0, 98, 90, 100, 59}, {5, 0, 97, 90, 100, 59},
+      {5, 0, 96, 90, 100, 79}, {5, 0, 95, 90, 100, 95}
     };
     for (int[] r : rows) {
-      Edge.holds("Promise 18: the greatest DEGREES (20 to 95), TOWELS as they are; NONE", "garment " + r[0] + "\n machine 1 " + r[1]
-          + "\n person " + r[2] + " " + r[3] + "\n set 0 1 " + r[4] + "\n warmest 0 0 = " + (r[5] == Due.NONE ? "NONE" : r[5])
-          + "\n machine 0 95 \n warmest 0 0 = " + (r[5] == Due.NONE ? "NONE" : r[5]));
+      Edge.holds("Promise 18: the greatest DEGREES (20 to 95), TOWELS as they are; NONE", Edge.run("""
+          garment $kind
+          machine 1 $towels
+          person $length $breadth
+          set 0 1 $long
+          warmest 0 0 = $due
+          machine 0 95
+          warmest 0 0 = $due
+          """, "$kind", r[0], "$towels", r[1], "$length", r[2], "$breadth", r[3], "$long", r[4], "$due", orNone(r[5])));
     }
     Edge.holds("Promise 18: washed once, and let dry for 3 DAYS, WET and DRAWN or not; never with HOLES", """
         garment 1
@@ -240,20 +247,27 @@ public final class EdgeDaysTest {
         """);
   }
 
+  private static String orNone(int due) {
+    return due == Due.NONE ? "NONE" : Integer.toString(due);
+  }
+
   /** Rows: LENGTH, BREADTH, what is due for WOOL that is 90 by 90 once it is washed, and bears 13. */
   private static void pull() {
     int[][] rows = {
-      {90, 90, 0}, {90, 91, Due.NONE}, {91, 90, 1}, {91, 91, Due.NONE}, {92, 89, 3}, {92, 90, Due.NONE}, {96, 80, 11}, {97, 80, 13},
-      {98, 80, Due.NONE}, {80, 80, 0}, {79, 80, Due.NONE}, {90, 75, 0}, {90, 74, 2}, {90, 69, 12}, {90, 68, Due.NONE}
+      {90, 90, 0}, {90, 91, Due.NONE}, {91, 90, 1}, {91, 91, Due.NONE}, {92, 89, 3}, {92, 90, Due.NONE}, {96, 80, 11},
+      {97, 80, 13}, {98, 80, Due.NONE}, {80, 80, 0}, {79, 80, Due.NONE}, {90, 75, 0}, {90, 74, 2}, {90, 69, 12},
+      {90, 68, Due.NONE}
     };
     for (int[] r : rows) {
-      Edge.holds("Promise 19: the least n (0 to 50; 0: not DRAWN); NONE", "garment 1 \n machine 0 60 \n person " + r[0] + " " + r[1]
-          + "\n pull 0 0 = " + (r[2] == Due.NONE ? "NONE" : r[2]));
+      Edge.holds("Promise 19: the least n (0 to 50; 0: not DRAWN); NONE", Edge.run(
+          "garment 1 | machine 0 60 | person $length $breadth | pull 0 0 = $due",
+          "$length", r[0], "$breadth", r[1], "$due", orNone(r[2])));
     }
     int[][] far = {{110, 52, 48}, {110, 51, 48}, {110, 50, 50}, {110, 49, Due.NONE}, {111, 50, Due.NONE}, {109, 51, 48}};
     for (int[] r : far) {
-      Edge.holds("Promise 19: n to 50, no more", "garment 4 \n set 0 3 99 \n machine 0 60 \n person " + r[0] + " " + r[1]
-          + "\n pull 0 0 = " + (r[2] == Due.NONE ? "NONE" : r[2]));
+      Edge.holds("Promise 19: n to 50, no more", Edge.run(
+          "garment 4 | set 0 3 99 | machine 0 60 | person $length $breadth | pull 0 0 = $due",
+          "$length", r[0], "$breadth", r[1], "$due", orNone(r[2])));
     }
   }
 
@@ -299,12 +313,24 @@ public final class EdgeDaysTest {
   private static void garmentAndPerson() {
     for (String call : new String[] {"washes", "warmest", "pull"}) {
       String sentence = "Promises 17 to 19: BEYOND, ahead of NONE: " + call;
-      Edge.holds(sentence, SCENE + call + " 2 0 = may \n " + call + " 2 1 = NONE \n " + call + " 1 0 = NONE \n"
-          + call + " 0 1 = NONE \n" + call + " 3 1 = BEYOND \n" + call + " 0 2 = BEYOND \n" + call + " 3 2 = BEYOND");
-      Edge.range(sentence, EIGHT + "\n" + SIX, call + " * 5", 0, 7);
-      Edge.range(sentence, EIGHT + "\n" + SIX, call + " 7 *", 0, 5);
-      Edge.holds(sentence, call + " 0 0 = BEYOND \n garment 0 \n " + call + " 0 0 = BEYOND \n person 100 100 \n " + call + " 0 0 = may",
-          "person 100 100 \n " + call + " 0 0 = BEYOND");
+      Edge.holds(sentence, SCENE + Edge.run("""
+          $call 2 0 = may
+          $call 2 1 = NONE
+          $call 1 0 = NONE
+          $call 0 1 = NONE
+          $call 3 1 = BEYOND
+          $call 0 2 = BEYOND
+          $call 3 2 = BEYOND
+          """, "$call", call));
+      Edge.range(sentence, EIGHT + " | " + SIX, call + " * 5", 0, 7);
+      Edge.range(sentence, EIGHT + " | " + SIX, call + " 7 *", 0, 5);
+      Edge.holds(sentence, Edge.run("""
+          $call 0 0 = BEYOND
+          garment 0
+          $call 0 0 = BEYOND
+          person 100 100
+          $call 0 0 = may
+          """, "$call", call), "person 100 100 | " + call + " 0 0 = BEYOND");
     }
   }
 
@@ -312,10 +338,21 @@ public final class EdgeDaysTest {
     Edge.range("Promise 20: n 1 to 40", SCENE, "kind 0 *", 1, 40);
     Edge.range("Promise 20: garments 0 to 2", SCENE, "kind * 1", 0, 2);
     Edge.range("Promise 20: garments 0 to 7", EIGHT, "kind * 40", 0, 7);
-    Edge.holds("Promise 20: no garment at all", "kind 0 1 = BEYOND \n kind 0 0 = BEYOND");
+    Edge.holds("Promise 20: no garment at all", "kind 0 1 = BEYOND | kind 0 0 = BEYOND");
     for (int k = 0; k <= 5; k++) {
-      Edge.holds("Promise 20: GARMENT never shrinks; of several the least", "garment " + k + "\n kind 0 1 = 0 \n kind 0 40 = 0"
-          + "\n machine 0 95 \n machine 1 1 \n kind 0 1 = 0 \n kind 0 40 = 0 \n set 0 1 10 \n kind 0 1 = 0 \n set 0 1 200 \n kind 0 1 = 0");
+      Edge.holds("Promise 20: GARMENT never shrinks; of several the least", Edge.run("""
+          garment $kind
+          kind 0 1 = 0
+          kind 0 40 = 0
+          machine 0 95
+          machine 1 1
+          kind 0 1 = 0
+          kind 0 40 = 0
+          set 0 1 10
+          kind 0 1 = 0
+          set 0 1 200
+          kind 0 1 = 0
+          """, "$kind", k));
     }
   }
 
@@ -364,7 +401,7 @@ public final class EdgeDaysTest {
         set 5 1 50
         set 5 2 50
         dressed 0 = 3
-        """, "5x person 10 10 \n person 100 100 \n garment 0 \n dressed 0 = 5 \n dressed 100 = 5");
+        """, "5x person 10 10 | person 100 100 | garment 0 | dressed 0 = 5 | dressed 100 = 5");
     Edge.holds("Promise 21: n DAYS AHEAD", """
         person 50 50
         person 100 90
@@ -405,7 +442,7 @@ public final class EdgeDaysTest {
         shortest 40 = 6
         set 0 1 98
         shortest 0 = 0
-        """, "garment 0 \n set 0 1 200 \n shortest 0 = 0 \n shortest 40 = 0");
+        """, "garment 0 | set 0 1 200 | shortest 0 = 0 | shortest 40 = 0");
     Edge.holds("Promise 22: washed 0 times to 40 AGAIN", """
         garment 0
         garment 2

@@ -17,7 +17,7 @@ public final class EdgeGarmentsTest {
       person 80 90
       sheet 0 16 3
       write 0 1 33
-      type "silk;wash 0"
+      type 'silk;wash 0'
       """;
   private static final String EIGHT = "8x garment 0";
   private static final String SIX = "6x person 100 100";
@@ -52,8 +52,8 @@ public final class EdgeGarmentsTest {
         garment 0 = 0
         person 10 10 = 0
         """);
-    Edge.holds("Promise 1: THE TAPE is empty", "count 2 = 0 \n wipe = 0 \n basket = -1 \n feed 32 1 = 1");
-    Edge.holds("Promise 1: no image is kept", "tear = 0 \n undo = NONE \n image = 1 \n undo = 0 \n tear = 1");
+    Edge.holds("Promise 1: THE TAPE is empty", "count 2 = 0 | wipe = 0 | basket = -1 | feed 32 1 = 1");
+    Edge.holds("Promise 1: no image is kept", "tear = 0 | undo = NONE | image = 1 | undo = 0 | tear = 1");
     Edge.holds("Promise 1: no finding yet", """
         status -1 = 0
         status 0 = 0
@@ -171,7 +171,7 @@ public final class EdgeGarmentsTest {
     Edge.range("Promise 5: what 0 to 10", SCENE, "of 0 *", 0, 10);
     Edge.range("Promise 5: garments 0 and 1", SCENE, "of * 1", 0, 1);
     Edge.range("Promise 5: garments 0 to 7", EIGHT, "of * 10", 0, 7);
-    Edge.holds("Promise 5: no garment at all", "of 0 0 = BEYOND \n of -1 0 = BEYOND \n of 0 11 = BEYOND \n of 8 -1 = BEYOND");
+    Edge.holds("Promise 5: no garment at all", "of 0 0 = BEYOND | of -1 0 = BEYOND | of 0 11 = BEYOND | of 8 -1 = BEYOND");
     Edge.holds("Promise 5: each of them", SCENE + """
         of 0 0 = 4
         of 0 1 = 87
@@ -210,7 +210,7 @@ public final class EdgeGarmentsTest {
         Edge.holds("Promise 6: what 1, 2, 3 or 6", SCENE + "set 0 " + what + " " + v + " = BEYOND");
       }
     }
-    Edge.holds("Promise 6: no garment at all", "set 0 1 50 = BEYOND \n set -1 6 0 = BEYOND");
+    Edge.holds("Promise 6: no garment at all", "set 0 1 50 = BEYOND | set -1 6 0 = BEYOND");
     Edge.holds("Promise 6: what it was, while it is WET, too", SCENE + """
         set 0 1 87 = 87
         set 0 1 10 = 87
@@ -229,7 +229,7 @@ public final class EdgeGarmentsTest {
   private static void wash() {
     Edge.range("Promise 7: garments 0 and 1", SCENE, "wash *", 0, 1);
     Edge.range("Promise 7: garments 0 to 7", EIGHT, "wash *", 0, 7);
-    Edge.holds("Promise 7: no garment at all", "wash 0 = BEYOND \n wash -1 = BEYOND");
+    Edge.holds("Promise 7: no garment at all", "wash 0 = BEYOND | wash -1 = BEYOND");
     Edge.holds("Promise 7: LONG then", SCENE + """
         wash 0 = 70
         of 0 1 = 70
@@ -248,7 +248,7 @@ public final class EdgeGarmentsTest {
         draw MAX 1 = BEYOND
         draw 0 1 = 88
         """);
-    Edge.range("Promise 8: garments 0 to 7", EIGHT + "\n wash 0 \n wash 7", "draw * 1", 0, 7);
+    Edge.range("Promise 8: garments 0 to 7", EIGHT + " | wash 0 | wash 7", "draw * 1", 0, 7);
     Edge.holds("Promise 8: STATE: it is dry", SCENE + """
         draw 1 1 = STATE
         draw 1 50 = STATE
@@ -285,14 +285,12 @@ public final class EdgeGarmentsTest {
   }
 
   private static void as() {
-    boolean[][] is = {
-      {true, false, false, false, false, false}, {true, true, false, false, false, false}, {true, false, true, false, false, false},
-      {true, false, false, true, false, false}, {true, true, false, false, true, false}, {true, false, true, false, false, true}
-    };
+    String[] is = {"0", "01", "02", "03", "014", "025"};
     for (int of = 0; of <= 5; of++) {
       for (int kind = 0; kind <= 5; kind++) {
+        String due = is[of].contains(Integer.toString(kind)) ? "77" : "KIND";
         Edge.holds("Promise 10: KIND: it isn't of that kind, nor of one under it",
-            "garment " + of + "\n set 0 3 77 \n as 0 " + kind + " = " + (is[of][kind] ? "77" : "KIND"));
+            Edge.run("garment $of | set 0 3 77 | as 0 $kind = $due", "$of", of, "$kind", kind, "$due", due));
       }
     }
     Edge.range("Promise 10: garments 0 and 1", SCENE, "as * 0", 0, 1);
@@ -347,7 +345,7 @@ public final class EdgeGarmentsTest {
     Edge.range("Promise 12: what 0 and 1", SCENE, "size 0 *", 0, 1);
     Edge.range("Promise 12: people 0 and 1", SCENE, "size * 0", 0, 1);
     Edge.range("Promise 12: people 0 to 5", SIX, "size * 1", 0, 5);
-    Edge.holds("Promise 12: nobody", "size 0 0 = BEYOND \n size -1 1 = BEYOND \n size 0 2 = BEYOND");
+    Edge.holds("Promise 12: nobody", "size 0 0 = BEYOND | size -1 1 = BEYOND | size 0 2 = BEYOND");
     Edge.holds("Promise 12: LENGTH, BREADTH", SCENE + """
         size 0 0 = 60
         size 0 1 = 70
@@ -359,7 +357,7 @@ public final class EdgeGarmentsTest {
   private static void fits() {
     Edge.range("Promise 13: people 0 and 1", SCENE, "fits *", 0, 1);
     Edge.range("Promise 13: people 0 to 5", SIX, "fits *", 0, 5);
-    Edge.holds("Promise 13: nobody", EIGHT + "\n fits 0 = BEYOND \n fits -1 = BEYOND");
+    Edge.holds("Promise 13: nobody", EIGHT + " | fits 0 = BEYOND | fits -1 = BEYOND");
     Edge.holds("Promise 13: no garment, the first, the last, all", SIX + """
 
         fits 0 = 0

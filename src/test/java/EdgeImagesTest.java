@@ -10,7 +10,7 @@ public final class EdgeImagesTest {
       draw 0 7
       days 1
       person 50 60
-      type "silk"
+      type 'silk'
       sheet 0 16 2
       write 0 0 9
       """;
@@ -44,8 +44,8 @@ public final class EdgeImagesTest {
   }
 
   private static void image() {
-    Edge.holds("Promise 32: 1, with nothing and with all there is", "image = 1 \n image = 1 \n undo = 0",
-        "8x garment 0 \n 6x person 10 10 \n image = 1 \n undo = 8 \n count 0 = 8 \n count 1 = 6", SCENE + "image = 1 \n image = 1");
+    Edge.holds("Promise 32: 1, with nothing and with all there is", "image = 1 | image = 1 | undo = 0",
+        "8x garment 0 | 6x person 10 10 | image = 1 | undo = 8 | count 0 = 8 | count 1 = 6", SCENE + "image = 1 | image = 1");
     Edge.holds("Promise 32: THE TAPE not", SCENE + """
         image = 1
         feed 59 1 = 5
@@ -58,7 +58,7 @@ public final class EdgeImagesTest {
   }
 
   private static void imageKeepsEach() {
-    Edge.holds("Promise 32: All that section 1 tells is kept", SCENE + "image = 1 \n" + CHANGES + """
+    Edge.holds("Promise 32: All that section 1 tells is kept", SCENE + "image = 1 | " + CHANGES + """
         undo = 1
         now 0 = 4
         now 1 = 60
@@ -77,20 +77,32 @@ public final class EdgeImagesTest {
         of 1 0 = BEYOND
         size 1 0 = BEYOND
         """);
-    Edge.holds("Promise 32: the sheets are not kept, nor is status", SCENE + "image = 1 \n garment 6 = BEYOND \n" + CHANGES + """
+    Edge.holds("Promise 32: the sheets are not kept, nor is status", SCENE + "image = 1 | garment 6 = BEYOND | " + CHANGES + """
         undo = 1
         write 0 0 0 = 8
         write 1 0 0 = 0
         status 0 = 1
         """);
-    Edge.holds("Promise 32: what is kept doesn't change with what there is", SCENE + "image = 1 \n" + CHANGES + "wash 0 = may \n days 1 = 1 \n undo = 1"
-        + "\n of 0 1 = 87 \n set 0 1 20 = 87 \n undo = 1 \n of 0 1 = 87 \n wipe = 5 \n basket \"silk;wash 0\" = 2 \n undo = 1 \n of 0 1 = 87");
+    Edge.holds("Promise 32: what is kept doesn't change with what there is", SCENE + "image = 1 | " + CHANGES + """
+        wash 0 = may
+        days 1 = 1
+        undo = 1
+        of 0 1 = 87
+        set 0 1 20 = 87
+        undo = 1
+        of 0 1 = 87
+        wipe = 5
+        basket 'silk;wash 0' = 2
+        undo = 1
+        of 0 1 = 87
+        """);
   }
 
   private static void undo() {
-    Edge.holds("Promise 33: NONE: nothing is kept", "undo = NONE \n undo = NONE", SCENE + "undo = NONE \n image = 1 \n undo = 1 \n tear = 1 \n undo = NONE");
-    Edge.holds("Promise 33: how many GARMENTS: none, 1, 8", "image \n 8x garment 0 \n undo = 0 \n count 0 = 0",
-        "garment 0 \n image \n 7x garment 0 \n undo = 1 \n garment 0 = 1", "8x garment 0 \n image \n undo = 8 \n garment 0 = FULL");
+    Edge.holds("Promise 33: NONE: nothing is kept", "undo = NONE | undo = NONE",
+        SCENE + "undo = NONE | image = 1 | undo = 1 | tear = 1 | undo = NONE");
+    Edge.holds("Promise 33: how many GARMENTS: none, 1, 8", "image | 8x garment 0 | undo = 0 | count 0 = 0",
+        "garment 0 | image | 7x garment 0 | undo = 1 | garment 0 = 1", "8x garment 0 | image | undo = 8 | garment 0 = FULL");
     Edge.holds("Promise 33: what was kept latest (which stays)", """
         image = 1
         garment 0 = 0
@@ -103,7 +115,7 @@ public final class EdgeImagesTest {
         undo = 1
         image = 1
         undo = 1
-        """, "garment 0 \n image = 1 \n image = 1 \n garment 0 \n undo = 1 \n image = 1 \n garment 0 \n garment 0 \n undo = 1");
+        """, "garment 0 | image = 1 | image = 1 | garment 0 | undo = 1 | image = 1 | garment 0 | garment 0 | undo = 1");
   }
 
   private static void tear() {
@@ -119,15 +131,28 @@ public final class EdgeImagesTest {
         tear = 0
         undo = NONE
         tear = 0
-        """, SCENE + "image = 1 \n undo = 1 \n undo = 1 \n tear = 1 \n undo = NONE \n image = 1 \n garment 0 = 1 \n undo = 1");
+        """, SCENE + "image = 1 | undo = 1 | undo = 1 | tear = 1 | undo = NONE | image = 1 | garment 0 = 1 | undo = 1");
   }
 
   private static void count() {
     Edge.range("Promise 35: 0 to 3; BEYOND: another what", SCENE, "count *", 0, 3);
-    Edge.holds("Promise 35: GARMENTS 0 to 8", "count 0 = 0 \n garment 0 \n count 0 = 1 \n 7x garment 0 \n count 0 = 8 \n garment 0 = FULL \n count 0 = 8");
-    Edge.holds("Promise 35: PEOPLE 0 to 6", "count 1 = 0 \n person 10 10 \n count 1 = 1 \n 5x person 10 10 \n count 1 = 6 \n person 10 10 = FULL \n count 1 = 6");
-    Edge.holds("Promise 35: bytes of THE TAPE 0 to 120", "count 2 = 0 \n feed 0 1 \n count 2 = 1 \n 29x feed 0 4 \n count 2 = 117 \n feed 0 4 = FULL"
-        + "\n count 2 = 117 \n feed 0 3 \n count 2 = 120 \n wipe = 120 \n count 2 = 0");
+    Edge.holds("Promise 35: GARMENTS 0 to 8",
+        "count 0 = 0 | garment 0 | count 0 = 1 | 7x garment 0 | count 0 = 8 | garment 0 = FULL | count 0 = 8");
+    Edge.holds("Promise 35: PEOPLE 0 to 6",
+        "count 1 = 0 | person 10 10 | count 1 = 1 | 5x person 10 10 | count 1 = 6 | person 10 10 = FULL | count 1 = 6");
+    Edge.holds("Promise 35: bytes of THE TAPE 0 to 120", """
+        count 2 = 0
+        feed 0 1
+        count 2 = 1
+        29x feed 0 4
+        count 2 = 117
+        feed 0 4 = FULL
+        count 2 = 117
+        feed 0 3
+        count 2 = 120
+        wipe = 120
+        count 2 = 0
+        """);
     Edge.holds("Promise 35: HOLES of all together, 0 to 8 times 9999", """
         count 3 = 0
         8x garment 0
@@ -157,7 +182,8 @@ public final class EdgeImagesTest {
         status 6 = 0
         status 5 = 0
         """);
-    Edge.holds("Promise 36: counted from then on", "status 0 = 0 \n status 7 = BEYOND \n status 0 = 1 \n status -1 = 1 \n status -2 = BEYOND \n status 0 = 2");
+    Edge.holds("Promise 36: counted from then on",
+        "status 0 = 0 | status 7 = BEYOND | status 0 = 1 | status -1 = 1 | status -2 = BEYOND | status 0 = 2");
     Edge.holds("Promise 36: undo() takes none back, nor does a new text", """
         image
         garment 6 = BEYOND
@@ -168,7 +194,7 @@ public final class EdgeImagesTest {
         status 0 = 1
         status 3 = 1
         status -1 = 2
-        basket "x" = -1
+        basket 'x' = -1
         status -1 = 2
         """);
   }
@@ -195,6 +221,11 @@ public final class EdgeImagesTest {
         status 6 = 1
         status -1 = 8
         """);
-    Edge.holds("Promise 36: as often as they come", "200x garment 6 = BEYOND \n status 0 = 200 \n status -1 = 200");
+    FeltedWash x = new FeltedWash();
+    for (int i = 0; i < 510; i++) {
+      x.garment(6);
+    }
+    Due.is("Promise 36: as often as they come: the 511th call", x.status(0), 510);
+    Due.is("Promise 36: as often as they come: the 512th call", x.status(-1), 510);
   }
 }

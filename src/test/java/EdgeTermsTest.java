@@ -60,7 +60,7 @@ public final class EdgeTermsTest {
   }
 
   private static void machine() {
-    Edge.holds("DAY: 0 at first", "now 0 = 0 \n days 1 = 0 \n now 0 = 1");
+    Edge.holds("DAY: 0 at first", "now 0 = 0 | days 1 = 0 | now 0 = 1");
     // takes more calls than an object is promised for, as no other way leads there
     Edge.holds("DAY: 99999 at most", """
         999x days 100
@@ -113,7 +113,7 @@ public final class EdgeTermsTest {
         """);
     for (int k = 0; k <= 5; k++) {
       Edge.holds("each LONG and BROAD (100 at first), THICK (10), WET, DRAWN, HOLES (0 at first)", "garment " + k + " = 0"
-          + "\n of 0 0 = " + k + "\n of 0 1 = 100 \n of 0 2 = 100 \n of 0 3 = 10 \n of 0 4 = 0 \n of 0 5 = 0 \n of 0 6 = 0");
+          + " | of 0 0 = " + k + " | of 0 1 = 100 | of 0 2 = 100 | of 0 3 = 10 | of 0 4 = 0 | of 0 5 = 0 | of 0 6 = 0");
     }
     Edge.holds("one behind another that was undone is as at first, too", """
         garment 4 = 0
@@ -136,9 +136,9 @@ public final class EdgeTermsTest {
         of 1 6 = 0
         """);
     for (int what = 1; what <= 2; what++) {
-      String set = "\n set 0 " + what + " ";
+      String set = " | set 0 " + what + " ";
       Edge.holds("LONG and BROAD (10 to 200)", "garment 0" + set + "9 = BEYOND" + set + "10 = 100" + set + "11 = 10"
-          + set + "199 = 11" + set + "200 = 199" + set + "201 = BEYOND" + "\n of 0 " + what + " = 200");
+          + set + "199 = 11" + set + "200 = 199" + set + "201 = BEYOND" + " | of 0 " + what + " = 200");
     }
     Edge.holds("THICK (1 to 99)", """
         garment 0
@@ -164,9 +164,9 @@ public final class EdgeTermsTest {
 
   /** Rows: degrees, then what is due of one of a kind at that number (7 SHRINKS, 8 FELTS). */
   private static void byDegrees(String sentence, int kind, int what, int towels, int[][] rows) {
-    StringBuilder run = new StringBuilder("garment " + kind + "\n machine 1 " + towels);
+    StringBuilder run = new StringBuilder("garment " + kind + " | machine 1 " + towels);
     for (int[] row : rows) {
-      run.append("\n machine 0 ").append(row[0]).append("\n of 0 ").append(what).append(" = ").append(row[1]);
+      run.append(" | machine 0 ").append(row[0]).append(" | of 0 ").append(what).append(" = ").append(row[1]);
     }
     Edge.holds(sentence + " (towels " + towels + ")", run.toString());
   }
@@ -207,20 +207,22 @@ public final class EdgeTermsTest {
   private static void byThick(String sentence, int kind, int[][] rows) {
     StringBuilder run = new StringBuilder("garment " + kind);
     for (int[] row : rows) {
-      run.append("\n set 0 3 ").append(row[0]).append("\n of 0 9 = ").append(row[1]);
+      run.append(" | set 0 3 ").append(row[0]).append(" | of 0 9 = ").append(row[1]);
     }
     Edge.holds(sentence, run.toString());
   }
 
   private static void bears() {
     byThick("BEARS: GARMENT: 10", 0, new int[][] {{1, 10}, {4, 10}, {99, 10}});
-    byThick("WOOL: as GARMENT, and THICK by 4", 1, new int[][] {{1, 10}, {3, 10}, {4, 11}, {7, 11}, {8, 12}, {95, 33}, {96, 34}, {99, 34}});
+    byThick("WOOL: as GARMENT, and THICK by 4", 1,
+        new int[][] {{1, 10}, {3, 10}, {4, 11}, {7, 11}, {8, 12}, {95, 33}, {96, 34}, {99, 34}});
     byThick("COTTON: 5", 2, new int[][] {{1, 5}, {4, 5}, {99, 5}});
     byThick("SILK: as GARMENT, less 7", 3, new int[][] {{1, 3}, {4, 3}, {99, 3}});
-    byThick("JUMPER: as WOOL, twice that", 4, new int[][] {{1, 20}, {2, 20}, {3, 20}, {4, 22}, {6, 22}, {7, 22}, {8, 24}, {99, 68}});
+    byThick("JUMPER: as WOOL, twice that", 4,
+        new int[][] {{1, 20}, {2, 20}, {3, 20}, {4, 22}, {6, 22}, {7, 22}, {8, 24}, {99, 68}});
     byThick("SOCK: as COTTON", 5, new int[][] {{1, 5}, {4, 5}, {99, 5}});
     for (int kind = 0; kind <= 4; kind++) {
-      Edge.holds("HOLES don't matter for kind " + kind, "garment " + kind + "\n set 0 3 1 \n set 0 6 9999 \n of 0 9 = "
+      Edge.holds("HOLES don't matter for kind " + kind, "garment " + kind + " | set 0 3 1 | set 0 6 9999 | of 0 9 = "
           + new int[] {10, 10, 5, 3, 20}[kind]);
     }
     Edge.holds("SOCK: and 1 for each HOLE", """
@@ -238,17 +240,17 @@ public final class EdgeTermsTest {
   private static void keeps() {
     int[] keeps = {50, 50, 20, 100, 40, 20};
     for (int kind = 0; kind <= 5; kind++) {
-      Edge.holds("KEEPS, of each kind", "garment " + kind + "\n of 0 10 = " + keeps[kind]);
+      Edge.holds("KEEPS, of each kind", "garment " + kind + " | of 0 10 = " + keeps[kind]);
     }
   }
 
   /** Rows: what it is before the wash and behind it; LONG and BROAD alike. */
   private static void washed(String sentence, int kind, int degrees, int[][] rows) {
     for (int[] row : rows) {
-      Edge.holds(sentence, "garment " + kind + "\n machine 0 " + degrees + "\n set 0 1 " + row[0] + "\n wash 0 = " + row[1]
-          + "\n of 0 1 = " + row[1] + "\n of 0 2 = " + (100 - new int[] {0, 27, 1, 50}[kind]));
-      Edge.holds(sentence, "garment " + kind + "\n machine 0 " + degrees + "\n set 0 2 " + row[0] + "\n wash 0 = "
-          + (100 - new int[] {0, 27, 1, 50}[kind]) + "\n of 0 2 = " + row[1]);
+      Edge.holds(sentence, "garment " + kind + " | machine 0 " + degrees + " | set 0 1 " + row[0] + " | wash 0 = " + row[1]
+          + " | of 0 1 = " + row[1] + " | of 0 2 = " + (100 - new int[] {0, 27, 1, 50}[kind]));
+      Edge.holds(sentence, "garment " + kind + " | machine 0 " + degrees + " | set 0 2 " + row[0] + " | wash 0 = "
+          + (100 - new int[] {0, 27, 1, 50}[kind]) + " | of 0 2 = " + row[1]);
     }
   }
 
@@ -266,21 +268,21 @@ public final class EdgeTermsTest {
     int[][] sock = {{1, 3}, {96, 98}, {97, 99}, {98, 99}, {99, 99}};
     for (int[] row : sock) {
       Edge.holds("TO WASH: THICK what it FELTS more (99 at most)",
-          "garment 5 \n set 0 3 " + row[0] + "\n wash 0 = 98 \n of 0 3 = " + row[1]);
+          "garment 5 | set 0 3 " + row[0] + " | wash 0 = 98 | of 0 3 = " + row[1]);
     }
     int[][] jumper = {{1, 20}, {79, 98}, {80, 99}, {81, 99}, {99, 99}};
     for (int[] row : jumper) {
-      Edge.holds("TO WASH: THICK what it FELTS more (99 at most)", "garment 4 \n machine 0 95 \n machine 1 1 \n set 0 3 "
-          + row[0] + "\n wash 0 = 46 \n of 0 3 = " + row[1]);
+      Edge.holds("TO WASH: THICK what it FELTS more (99 at most)", "garment 4 | machine 0 95 | machine 1 1 | set 0 3 "
+          + row[0] + " | wash 0 = 46 | of 0 3 = " + row[1]);
     }
   }
 
   private static void toWashWetAndDrawn() {
     int[] wetThen = {3, 2, 1, 0, 0};
     for (int days = 0; days <= 4; days++) {
-      String passed = days == 0 ? "" : "\n days " + days;
-      Edge.holds("TO WASH: WET 3, whether it was dry or WET by any days", "garment 0 \n of 0 4 = 0 \n wash 0 = 100 \n of 0 4 = 3"
-          + passed + "\n of 0 4 = " + wetThen[days] + "\n wash 0 = 100 \n of 0 4 = 3");
+      String passed = days == 0 ? "" : " | days " + days;
+      Edge.holds("TO WASH: WET 3, whether it was dry or WET by any days", "garment 0 | of 0 4 = 0 | wash 0 = 100 | of 0 4 = 3"
+          + passed + " | of 0 4 = " + wetThen[days] + " | wash 0 = 100 | of 0 4 = 3");
     }
     Edge.holds("TO WASH: DRAWN 0, so that it goes back by nothing", """
         garment 0
@@ -303,14 +305,14 @@ public final class EdgeTermsTest {
   private static void toDrawIsHeld() {
     int[][] rows = {
       {100, 100, 1, 101, 100}, {100, 100, 2, 102, 99}, {100, 100, 3, 103, 99}, {100, 100, 49, 149, 76}, {100, 100, 50, 150, 75},
-      {198, 100, 1, 199, 100}, {199, 100, 1, 200, 100}, {200, 100, 1, 200, 100}, {149, 100, 50, 199, 75}, {150, 100, 50, 200, 75},
-      {151, 100, 50, 200, 75}, {200, 100, 50, 200, 75}, {10, 10, 1, 11, 10}, {10, 10, 2, 12, 10}, {10, 11, 2, 12, 10},
-      {10, 12, 2, 12, 11}, {10, 36, 50, 60, 11}, {10, 35, 50, 60, 10}, {10, 34, 50, 60, 10}, {10, 10, 50, 60, 10}
+      {198, 100, 1, 199, 100}, {199, 100, 1, 200, 100}, {200, 100, 1, 200, 100}, {149, 100, 50, 199, 75},
+      {150, 100, 50, 200, 75}, {151, 100, 50, 200, 75}, {200, 100, 50, 200, 75}, {10, 10, 1, 11, 10}, {10, 10, 2, 12, 10},
+      {10, 11, 2, 12, 10}, {10, 12, 2, 12, 11}, {10, 36, 50, 60, 11}, {10, 35, 50, 60, 10}, {10, 34, 50, 60, 10}, {10, 10, 50, 60, 10}
     };
     for (int[] r : rows) {
       Edge.holds("TO DRAW: LONG n more (200 at most), BROAD half of n (cut) less (10 at least), DRAWN n more",
-          "garment 0 \n set 0 1 " + r[0] + "\n set 0 2 " + r[1] + "\n wash 0 = " + r[0] + "\n draw 0 " + r[2] + " = " + r[3]
-          + "\n of 0 1 = " + r[3] + "\n of 0 2 = " + r[4] + "\n of 0 3 = 10 \n of 0 4 = 3 \n of 0 5 = " + r[2]);
+          "garment 0 | set 0 1 " + r[0] + " | set 0 2 " + r[1] + " | wash 0 = " + r[0] + " | draw 0 " + r[2] + " = " + r[3]
+          + " | of 0 1 = " + r[3] + " | of 0 2 = " + r[4] + " | of 0 3 = 10 | of 0 4 = 3 | of 0 5 = " + r[2]);
     }
     Edge.holds("TO DRAW: DRAWN n more, though LONG is held, and above 200, too", """
         garment 0
@@ -340,13 +342,13 @@ public final class EdgeTermsTest {
   private static void toDrawBears() {
     int[] bears = {10, 12, 5, 3, 24, 5};
     for (int kind = 0; kind <= 5; kind++) {
-      String wet = "garment " + kind + "\n machine 0 20 \n wash 0 \n set 0 3 10 \n of 0 9 = " + bears[kind];
+      String wet = "garment " + kind + " | machine 0 20 | wash 0 | set 0 3 10 | of 0 9 = " + bears[kind];
       String sentence = "TO DRAW: if DRAWN is above what it BEARS then: HOLES is 1 more; kind " + kind;
-      Edge.holds(sentence, wet + "\n draw 0 " + (bears[kind] - 1) + " = may \n of 0 6 = 0 \n draw 0 1 = may \n of 0 6 = 0"
-          + "\n draw 0 1 = may \n of 0 6 = 1 \n now 4 = 1 \n draw 0 1 = may \n of 0 6 = 2");
-      Edge.holds(sentence, wet + "\n draw 0 " + bears[kind] + " = may \n of 0 6 = 0 \n now 4 = 0");
-      Edge.holds(sentence, wet + "\n draw 0 " + (bears[kind] + 1) + " = may \n of 0 6 = 1");
-      Edge.holds(sentence + ": 1, however far above", wet + "\n draw 0 50 = may \n of 0 6 = 1");
+      Edge.holds(sentence, wet + " | draw 0 " + (bears[kind] - 1) + " = may | of 0 6 = 0 | draw 0 1 = may | of 0 6 = 0"
+          + " | draw 0 1 = may | of 0 6 = 1 | now 4 = 1 | draw 0 1 = may | of 0 6 = 2");
+      Edge.holds(sentence, wet + " | draw 0 " + bears[kind] + " = may | of 0 6 = 0 | now 4 = 0");
+      Edge.holds(sentence, wet + " | draw 0 " + (bears[kind] + 1) + " = may | of 0 6 = 1");
+      Edge.holds(sentence + ": 1, however far above", wet + " | draw 0 50 = may | of 0 6 = 1");
     }
     Edge.holds("TO DRAW: what WOOL BEARS then: THICK 11 or 12", """
         garment 1
@@ -448,8 +450,8 @@ public final class EdgeTermsTest {
     };
     for (int[] r : rows) {
       Edge.holds("A DAY goes: LONG is DRAWN times (100 less what it KEEPS), by 100 (cut), less (10 at least), DRAWN 0",
-          "garment " + r[0] + "\n wash 0 \n days 2 \n draw 0 " + r[2] + "\n set 0 1 " + r[1] + "\n on 0 1 0 = " + r[3]
-          + "\n days 1 = 0 \n of 0 1 = " + r[3] + "\n of 0 5 = 0 \n of 0 4 = 0");
+          "garment " + r[0] + " | wash 0 | days 2 | draw 0 " + r[2] + " | set 0 1 " + r[1] + " | on 0 1 0 = " + r[3]
+          + " | days 1 = 0 | of 0 1 = " + r[3] + " | of 0 5 = 0 | of 0 4 = 0");
     }
     Edge.holds("A DAY goes: by the kind that it is then", """
         garment 0
@@ -498,11 +500,13 @@ public final class EdgeTermsTest {
       {100, 100, 99, 100, 0}, {100, 100, 100, 100, 1}, {100, 100, 110, 100, 1}, {100, 100, 111, 100, 0}, {100, 100, 100, 99, 0},
       {100, 100, 100, 115, 1}, {100, 100, 100, 116, 0}, {100, 100, 110, 115, 1}, {100, 100, 111, 116, 0}, {100, 100, 99, 99, 0},
       {10, 10, 10, 10, 1}, {10, 10, 20, 25, 1}, {10, 10, 21, 25, 0}, {10, 10, 20, 26, 0}, {200, 200, 200, 200, 1},
-      {200, 200, 199, 200, 0}, {200, 200, 200, 199, 0}, {190, 185, 200, 200, 1}, {189, 185, 200, 200, 0}, {190, 184, 200, 200, 0}
+      {200, 200, 199, 200, 0}, {200, 200, 200, 199, 0}, {190, 185, 200, 200, 1}, {189, 185, 200, 200, 0},
+      {190, 184, 200, 200, 0}
     };
     for (int[] r : rows) {
-      Edge.holds("FITS: from as LONG as LENGTH to 10 more, and from as BROAD as BREADTH to 15 more", "garment 0 \n person " + r[0]
-          + " " + r[1] + "\n set 0 1 " + r[2] + "\n set 0 2 " + r[3] + "\n fits 0 = " + r[4] + "\n now 5 = " + r[4]);
+      Edge.holds("FITS: from as LONG as LENGTH to 10 more, and from as BROAD as BREADTH to 15 more", Edge.run(
+          "garment 0 | person $length $breadth | set 0 1 $long | set 0 2 $broad | fits 0 = $due | now 5 = $due",
+          "$length", r[0], "$breadth", r[1], "$long", r[2], "$broad", r[3], "$due", r[4]));
     }
     Edge.holds("FITS: if it is dry", """
         garment 0
@@ -537,7 +541,7 @@ public final class EdgeTermsTest {
         person 94 91
         wash 0
         draw 0 10
-        type "wool"
+        type 'wool'
         image
         on 0 0 0 = 110
         on 0 2 0 = 110
@@ -584,14 +588,22 @@ public final class EdgeTermsTest {
 
   private static void sheets() {
     for (int s = 0; s <= 3; s++) {
-      Edge.holds("SHEETS 0 to 3 are MISSING (at first)", "lays " + s + " = MISSING \n write " + s + " 0 0 = MISSING \n sheet " + s
-          + " 8 0 = 0 \n lays " + s + " = 0");
+      Edge.holds("SHEETS 0 to 3 are MISSING (at first)", "lays " + s + " = MISSING | write " + s + " 0 0 = MISSING | sheet " + s
+          + " 8 0 = 0 | lays " + s + " = 0");
     }
-    Edge.holds("SHEETS 0 to 3: no other", "lays -1 = BEYOND \n lays 4 = BEYOND \n sheet -1 8 1 = BEYOND \n sheet 4 8 1 = BEYOND");
+    Edge.holds("SHEETS 0 to 3: no other", "lays -1 = BEYOND | lays 4 = BEYOND | sheet -1 8 1 = BEYOND | sheet 4 8 1 = BEYOND");
     for (int bits : new int[] {8, 16, 64}) {
-      Edge.holds("rows of at most 40 numbers", "sheet 1 " + bits + " 39 = 39 \n write 1 38 7 = 0 \n write 1 39 7 = BEYOND \n sheet 1 "
-          + bits + " 40 = 40 \n write 1 38 7 = 0 \n write 1 39 8 = 0 \n write 1 40 9 = BEYOND \n sheet 1 " + bits + " 41 = BEYOND"
-          + "\n write 1 39 0 = 8");
+      Edge.holds("rows of at most 40 numbers", Edge.run("""
+          sheet 1 $bits 39 = 39
+          write 1 38 7 = 0
+          write 1 39 7 = BEYOND
+          sheet 1 $bits 40 = 40
+          write 1 38 7 = 0
+          write 1 39 8 = 0
+          write 1 40 9 = BEYOND
+          sheet 1 $bits 41 = BEYOND
+          write 1 39 0 = 8
+          """, "$bits", bits));
     }
   }
 }

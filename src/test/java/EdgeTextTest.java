@@ -19,7 +19,7 @@ public final class EdgeTextTest {
     aFault();
     wordsAndNumbers();
     bytesThatBeginNoToken();
-    bytesBesideTheLetters();
+    lettersAndDigits();
     blanks();
     items();
     garmentItems();
@@ -33,7 +33,7 @@ public final class EdgeTextTest {
 
   /** A text on a new object, and how many ITEMS it has. */
   private static void told(String sentence, String text, int items) {
-    Edge.holds(sentence, "basket \"" + text + "\" = " + items);
+    Edge.holds(sentence, "basket '" + text + "' = " + items);
   }
 
   /** A text on a new object, and the place of its FAULT. */
@@ -43,7 +43,7 @@ public final class EdgeTextTest {
 
   private static void feed() {
     Edge.range("Promise 23: n 1 to 4", SCENE, "feed 0x6F6F6F6F *", 1, 4);
-    Edge.range("Promise 23: n 1 to 4", SCENE + "type \"wool;\"", "feed 0 *", 1, 4);
+    Edge.range("Promise 23: n 1 to 4", SCENE + "type 'wool;'", "feed 0 *", 1, 4);
     Edge.holds("Promise 23: how many it has", """
         feed 32 1 = 1
         feed 0x2020 2 = 3
@@ -61,17 +61,17 @@ public final class EdgeTextTest {
         basket = 2
         of 0 0 = 1
         of 1 0 = 3
-        """, "feed MIN 4 = 4 \n basket = -1", "feed -1 1 = 1 \n basket = -1", "feed MAX 4 = 4 \n basket = -1",
-        "feed 0xDFDFDFDF 1 = 1 \n basket = -1", "type \"woo\" \n feed -148 1 = 4 \n basket = 1");
+        """, "feed MIN 4 = 4 | basket = -1", "feed -1 1 = 1 | basket = -1", "feed MAX 4 = 4 | basket = -1",
+        "feed 0xDFDFDFDF 1 = 1 | basket = -1", "type 'woo' | feed -148 1 = 4 | basket = 1");
   }
 
   private static void feedFull() {
     String full = "30x feed 0x20202020 4";
-    Edge.holds("Promise 23: FULL: THE TAPE has at most 120 bytes", "29x feed 0x20202020 4 = 116 \n feed 0x20202020 4 = 120"
-        + "\n feed 32 1 = FULL \n feed 32 4 = FULL \n count 2 = 120",
-        "29x feed 0x20202020 4 = 116 \n feed 32 1 = 117 \n feed 0 4 = FULL \n feed 32 3 = 120 \n feed 32 1 = FULL",
-        "29x feed 0x20202020 4 = 116 \n feed 0x2020 2 = 118 \n feed 0 3 = FULL \n feed 0x2020 2 = 120 \n feed 32 2 = FULL",
-        "29x feed 0x20202020 4 = 116 \n feed 32 3 = 119 \n feed 0 2 = FULL \n feed 32 1 = 120 \n feed 32 1 = FULL");
+    Edge.holds("Promise 23: FULL: THE TAPE has at most 120 bytes", "29x feed 0x20202020 4 = 116 | feed 0x20202020 4 = 120"
+        + " | feed 32 1 = FULL | feed 32 4 = FULL | count 2 = 120",
+        "29x feed 0x20202020 4 = 116 | feed 32 1 = 117 | feed 0 4 = FULL | feed 32 3 = 120 | feed 32 1 = FULL",
+        "29x feed 0x20202020 4 = 116 | feed 0x2020 2 = 118 | feed 0 3 = FULL | feed 0x2020 2 = 120 | feed 32 2 = FULL",
+        "29x feed 0x20202020 4 = 116 | feed 32 3 = 119 | feed 0 2 = FULL | feed 32 1 = 120 | feed 32 1 = FULL");
     Edge.holds("Promise 23: BEYOND is asked ahead of FULL", full + """
 
         feed 32 0 = BEYOND
@@ -81,46 +81,46 @@ public final class EdgeTextTest {
         feed 32 MAX = BEYOND
         feed 32 1 = FULL
         """);
-    Edge.holds("Promise 23: FULL no more once it is empty", full + "\n wipe = 120 \n feed 32 4 = 4",
-        full + "\n basket = -121 \n feed 32 4 = 4");
+    Edge.holds("Promise 23: FULL no more once it is empty", full + " | wipe = 120 | feed 32 4 = 4",
+        full + " | basket = -121 | feed 32 4 = 4");
   }
 
   private static void wipe() {
-    Edge.holds("Promise 24: how many it had: none, 1, 120", "wipe = 0 \n feed 119 1 \n wipe = 1 \n wipe = 0 \n count 2 = 0",
-        "30x feed 0x20202020 4 \n wipe = 120 \n wipe = 0 \n basket \"wool\" = 1 \n count 0 = 1 \n of 0 0 = 1");
-    Edge.holds("Promise 24: nothing else", SCENE + "type \"wool\" \n wipe = 4 \n count 0 = 1");
+    Edge.holds("Promise 24: how many it had: none, 1, 120", "wipe = 0 | feed 119 1 | wipe = 1 | wipe = 0 | count 2 = 0",
+        "30x feed 0x20202020 4 | wipe = 120 | wipe = 0 | basket 'wool' = 1 | count 0 = 1 | of 0 0 = 1");
+    Edge.holds("Promise 24: nothing else", SCENE + "type 'wool' | wipe = 4 | count 0 = 1");
   }
 
   private static void basket() {
     Edge.holds("Promise 25: how many ITEMS, and empty then", SCENE + """
-        basket "silk" = 1
+        basket 'silk' = 1
         count 2 = 0
         basket = -1
-        basket "sock;person 10 10" = 2
-        basket "wool;wool;wool" = 3
+        basket 'sock;person 10 10' = 2
+        basket 'wool;wool;wool' = 3
         count 0 = 6
         count 1 = 3
         undo = 1
         count 1 = 1
         """);
-    Edge.holds("Promise 25: THE TAPE to its last byte", "basket \"" + "none;".repeat(23) + " sock\" = 24 \n of 0 0 = 5",
-        "basket \"" + "none;".repeat(23) + "sock \" = 24", "basket \"" + "none;".repeat(24) + "\" = -121",
-        "basket \"" + "none;".repeat(23) + "socks\" = -116");
-    Edge.holds("Promise 25: TEXT: one ITEM of 120 bytes", "basket \"wool" + " ".repeat(116) + "\" = 1",
-        "basket \"" + " ".repeat(116) + "wool\" = 1", "basket \"" + "w".repeat(120) + "\" = -1",
-        "basket \"degrees " + "0".repeat(110) + "95\" = 1 \n now 1 = 95", "basket \"degrees " + "9".repeat(112) + "\" = -9");
+    Edge.holds("Promise 25: THE TAPE to its last byte", "basket '" + "none;".repeat(23) + " sock' = 24 | of 0 0 = 5",
+        "basket '" + "none;".repeat(23) + "sock ' = 24", "basket '" + "none;".repeat(24) + "' = -121",
+        "basket '" + "none;".repeat(23) + "socks' = -116");
+    Edge.holds("Promise 25: TEXT: one ITEM of 120 bytes", "basket 'wool" + " ".repeat(116) + "' = 1",
+        "basket '" + " ".repeat(116) + "wool' = 1", "basket '" + "w".repeat(120) + "' = -1",
+        "basket 'degrees " + "0".repeat(110) + "95' = 1 | now 1 = 95", "basket 'degrees " + "9".repeat(112) + "' = -9");
   }
 
   private static void aFault() {
     Edge.holds("Promise 25: With a FAULT: nothing changes but that THE TAPE is empty; no finding", SCENE + """
-        basket "towels;degrees 95;sock size 10 10;person 10 10;wash 0;wash 1;none;x" = -67
+        basket 'towels;degrees 95;sock size 10 10;person 10 10;wash 0;wash 1;none;x' = -67
         count 2 = 0
         now 2 = 0
         now 1 = 60
-        basket "wool" = 1
+        basket 'wool' = 1
         of 1 0 = 1
         """, SCENE + """
-        type "wash 0;"
+        type 'wash 0;'
         count 2 = 7
         basket = -8
         count 2 = 0
@@ -128,7 +128,7 @@ public final class EdgeTextTest {
         of 0 5 = 7
         """, SCENE + """
         basket = -1
-        type "wash 0"
+        type 'wash 0'
         basket = 1
         of 0 5 = 0
         """);
@@ -148,7 +148,8 @@ public final class EdgeTextTest {
     fault(longest, "wool size 1 0 10", 10);
     fault(longest, "none0", 4);
     String most = "NUMBERS (digits, 999 at most)";
-    for (String call : new String[] {"person ", "person 10 ", "wool size ", "wool size 10 ", "wool thick ", "degrees ", "wool;wash "}) {
+    String[] calls = {"person ", "person 10 ", "wool size ", "wool size 10 ", "wool thick ", "degrees ", "wool;wash "};
+    for (String call : calls) {
       for (String number : new String[] {"999", "1000", "4294967316", "18446744073709551636", "0".repeat(50) + "999"}) {
         fault(most, call + number, call.length());
       }
@@ -156,34 +157,38 @@ public final class EdgeTextTest {
     fault(most, "wool 999", 5);
     fault(most, "wool 1000", 5);
     fault(most, "1000", 0);
-    Edge.holds(most + ": its value counts, not its digits", "basket \"degrees 00000000000020\" = 1 \n now 1 = 20",
-        "basket \"wool thick 0099;wash 000\" = 2 \n of 0 3 = 99");
+    Edge.holds(most + ": its value counts, not its digits", "basket 'degrees 00000000000020' = 1 | now 1 = 20",
+        "basket 'wool thick 0099;wash 000' = 2 | of 0 3 = 99");
   }
 
   private static void bytesThatBeginNoToken() {
     for (int b = 0; b <= 255; b++) {
       boolean token = b >= 'a' && b <= 'z' || b >= '0' && b <= '9' || b == ';' || b == ' ';
       Edge.holds("FAULT: a byte that begins no TOKEN, or a TOKEN that can't stand there",
-          "feed " + b + " 1 \n basket = " + (b == ' ' ? -2 : -1), "type \"wool \" \n feed " + b + " 1 \n basket = "
+          "feed " + b + " 1 | basket = " + (b == ' ' ? -2 : -1), "type 'wool ' | feed " + b + " 1 | basket = "
           + (b == ' ' ? 1 : b == ';' ? -7 : -6));
       if (!token) {
-        Edge.holds("FAULT: a byte that begins no TOKEN, within others", "type \"wo\" \n feed " + b + " 1 \n type \"ol\" \n basket = -1",
-            "type \"wool\" \n feed " + b + " 1 \n basket = -5", "type \"wool size 10\" \n feed " + b + " 1 \n type \"10\" \n basket = -13",
-            "type \"wool size 10 1\" \n feed " + b + " 1 \n type \"0\" \n basket = -14",
-            "type \"wool;\" \n feed " + b + " 1 \n type \"wool\" \n basket = -6");
+        Edge.holds("FAULT: a byte that begins no TOKEN, within others",
+            Edge.run("type 'wo' | feed $b 1 | type 'ol' | basket = -1", "$b", b),
+            Edge.run("type 'wool' | feed $b 1 | basket = -5", "$b", b),
+            Edge.run("type 'wool size 10' | feed $b 1 | type '10' | basket = -13", "$b", b),
+            Edge.run("type 'wool size 10 1' | feed $b 1 | type '0' | basket = -14", "$b", b),
+            Edge.run("type 'wool;' | feed $b 1 | type 'wool' | basket = -6", "$b", b));
       }
     }
   }
 
-  /** The bytes just ahead of a and behind z, of 0 and behind 9, ahead of ; and behind it. */
-  private static void bytesBesideTheLetters() {
-    Edge.holds("WORDS (letters a to z): both ends", "basket \"a\" = -1", "basket \"wool z\" = -6", "basket \"degrees 40 a\" = -12",
-        "basket \"garment;silk;cotton\" = 3", "basket \"wool size 10 10\" = 1");
-    Edge.holds("a letter behind a number begins another TOKEN: a and z", "basket \"degrees 40a\" = -11", "basket \"degrees 40z\" = -11");
-    Edge.holds("a digit behind a word begins another TOKEN: 0 and 9", "basket \"wool0\" = -5", "basket \"wool9\" = -5",
-        "basket \"degrees90\" = 1 \n now 1 = 90");
-    Edge.holds("digits 0 to 9 all count", "basket \"person 102 34\" = 1 \n size 0 0 = 102 \n size 0 1 = 34",
-        "basket \"person 56 78\" = 1 \n size 0 0 = 56 \n size 0 1 = 78", "basket \"person 199 90\" = 1 \n size 0 0 = 199 \n size 0 1 = 90");
+  /** The first and the last of them; the bytes beside them are in bytesThatBeginNoToken. */
+  private static void lettersAndDigits() {
+    Edge.holds("WORDS (letters a to z): both ends", "basket 'a' = -1", "basket 'wool z' = -6", "basket 'degrees 40 a' = -12",
+        "basket 'garment;silk;cotton' = 3", "basket 'wool size 10 10' = 1");
+    Edge.holds("a letter behind a number begins another TOKEN: a and z",
+        "basket 'degrees 40a' = -11", "basket 'degrees 40z' = -11");
+    Edge.holds("a digit behind a word begins another TOKEN: 0 and 9", "basket 'wool0' = -5", "basket 'wool9' = -5",
+        "basket 'degrees90' = 1 | now 1 = 90");
+    Edge.holds("digits 0 to 9 all count", "basket 'person 102 34' = 1 | size 0 0 = 102 | size 0 1 = 34",
+        "basket 'person 56 78' = 1 | size 0 0 = 56 | size 0 1 = 78",
+        "basket 'person 199 90' = 1 | size 0 0 = 199 | size 0 1 = 90");
   }
 
   private static void blanks() {
@@ -217,8 +222,11 @@ public final class EdgeTextTest {
     fault(text, "towels none", 7);
     fault(text, "none towels", 5);
     String another = "FAULT: another WORD";
-    for (String word : new String[] {"size", "thick", "garments", "woo", "cottons", "sil", "jump", "socks", "persons", "degree", "towel",
-        "non", "was", "forty", "kind", "a", "garmenu", "xool", "vool", "jumpes", "rock"}) {
+    String[] words = {
+      "size", "thick", "garments", "woo", "cottons", "sil", "jump", "socks", "persons", "degree", "towel", "non", "was", "forty",
+      "kind", "a", "garmenu", "xool", "vool", "jumpes", "rock"
+    };
+    for (String word : words) {
       fault(another, word, 0);
       fault(another, "wool;" + word, 5);
       fault(another, "person 10 10 " + word, 13);
@@ -228,14 +236,14 @@ public final class EdgeTextTest {
   private static void garmentItems() {
     String[] kinds = {"garment", "wool", "cotton", "silk", "jumper", "sock"};
     for (int k = 0; k <= 5; k++) {
-      Edge.holds("ITEM: the name of a KIND: one more", "basket \"" + kinds[k] + "\" = 1 \n count 0 = 1 \n of 0 0 = " + k
-          + "\n of 0 1 = 100 \n of 0 2 = 100 \n of 0 3 = 10 \n of 0 4 = 0 \n of 0 5 = 0 \n of 0 6 = 0");
+      Edge.holds("ITEM: the name of a KIND: one more", "basket '" + kinds[k] + "' = 1 | count 0 = 1 | of 0 0 = " + k
+          + " | of 0 1 = 100 | of 0 2 = 100 | of 0 3 = 10 | of 0 4 = 0 | of 0 5 = 0 | of 0 6 = 0");
     }
     String size = "perhaps two NUMBERS behind size (LONG and BROAD, 10 to 200)";
     fault(size, "wool size 9 100", 10);
-    Edge.holds(size, "basket \"wool size 10 100\" = 1 \n of 0 1 = 10 \n of 0 2 = 100",
-        "basket \"wool size 200 100\" = 1 \n of 0 1 = 200", "basket \"wool size 100 10\" = 1 \n of 0 1 = 100 \n of 0 2 = 10",
-        "basket \"wool size 100 200\" = 1 \n of 0 2 = 200");
+    Edge.holds(size, "basket 'wool size 10 100' = 1 | of 0 1 = 10 | of 0 2 = 100",
+        "basket 'wool size 200 100' = 1 | of 0 1 = 200", "basket 'wool size 100 10' = 1 | of 0 1 = 100 | of 0 2 = 10",
+        "basket 'wool size 100 200' = 1 | of 0 2 = 200");
     fault(size, "wool size 201 100", 10);
     fault(size, "wool size 100 9", 14);
     fault(size, "wool size 100 201", 14);
@@ -248,8 +256,8 @@ public final class EdgeTextTest {
     fault(size, "wool 10 10", 5);
     String thick = "perhaps thick and a NUMBER (1 to 99)";
     fault(thick, "wool thick 0", 11);
-    Edge.holds(thick, "basket \"wool thick 1\" = 1 \n of 0 3 = 1", "basket \"wool thick 99\" = 1 \n of 0 3 = 99",
-        "basket \"wool size 20 30 thick 2\" = 1 \n of 0 1 = 20 \n of 0 2 = 30 \n of 0 3 = 2");
+    Edge.holds(thick, "basket 'wool thick 1' = 1 | of 0 3 = 1", "basket 'wool thick 99' = 1 | of 0 3 = 99",
+        "basket 'wool size 20 30 thick 2' = 1 | of 0 1 = 20 | of 0 2 = 30 | of 0 3 = 2");
     fault(thick, "wool thick 100", 11);
     fault(thick, "wool thick 1 1", 13);
     fault(thick, "wool thick 1 size 10 10", 13);
@@ -259,17 +267,17 @@ public final class EdgeTextTest {
     told(ninth, "wool;wool;wool;wool;wool;wool;wool;sock", 8);
     fault(ninth, "wool;wool;wool;wool;wool;wool;wool;wool; sock size 1", 41);
     for (String kind : kinds) {
-      Edge.holds(ninth, "7x garment 0 \n basket \"" + kind + "\" = 1 \n count 0 = 8 \n basket \"" + kind + "\" = -1 \n basket \"none;"
-          + kind + "\" = -6 \n basket \"wash 7\" = 1", "7x garment 0 \n basket \"wool;" + kind + "\" = -6 \n count 0 = 7");
+      Edge.holds(ninth, "7x garment 0 | basket '" + kind + "' = 1 | count 0 = 8 | basket '" + kind + "' = -1 | basket 'none;"
+          + kind + "' = -6 | basket 'wash 7' = 1", "7x garment 0 | basket 'wool;" + kind + "' = -6 | count 0 = 7");
     }
-    Edge.holds(ninth + ", though what is behind it can't stand, either", "8x garment 0 \n basket \"wool size 9 x\" = -1");
+    Edge.holds(ninth + ", though what is behind it can't stand, either", "8x garment 0 | basket 'wool size 9 x' = -1");
   }
 
   private static void personItems() {
     String person = "person, two NUMBERS (10 to 200): one more";
     fault(person, "person 9 100", 7);
-    Edge.holds(person, "basket \"person 10 200\" = 1 \n size 0 0 = 10 \n size 0 1 = 200",
-        "basket \"person 200 10\" = 1 \n size 0 0 = 200 \n size 0 1 = 10 \n count 1 = 1");
+    Edge.holds(person, "basket 'person 10 200' = 1 | size 0 0 = 10 | size 0 1 = 200",
+        "basket 'person 200 10' = 1 | size 0 0 = 200 | size 0 1 = 10 | count 1 = 1");
     fault(person, "person 201 100", 7);
     fault(person, "person 100 9", 11);
     fault(person, "person 100 201", 11);
@@ -279,25 +287,25 @@ public final class EdgeTextTest {
     fault(person, "person size 10 10", 7);
     fault(person, "person 10 10 thick 1", 13);
     String seventh = "FAULT: person for a 7th: its own";
-    Edge.holds(seventh, "5x person 10 10 \n basket \"person 20 30\" = 1 \n count 1 = 6 \n size 5 1 = 30 \n basket \"person 10 10\" = -1"
-        + "\n basket \"none; person 9\" = -7", "5x person 10 10 \n basket \"person 10 10;person 10 10\" = -14 \n count 1 = 5",
-        "basket \"" + "person 10 10;".repeat(5) + "person 10 10\" = 6 \n count 1 = 6",
-        "basket \"" + "person 10 10;".repeat(6) + "person 10 10\" = -79 \n count 1 = 0", "6x person 10 10 \n basket \"wool\" = 1",
-        "8x garment 0 \n basket \"person 10 10\" = 1");
+    Edge.holds(seventh, "5x person 10 10 | basket 'person 20 30' = 1 | count 1 = 6 | size 5 1 = 30 | basket 'person 10 10' = -1"
+        + " | basket 'none; person 9' = -7", "5x person 10 10 | basket 'person 10 10;person 10 10' = -14 | count 1 = 5",
+        "basket '" + "person 10 10;".repeat(5) + "person 10 10' = 6 | count 1 = 6",
+        "basket '" + "person 10 10;".repeat(6) + "person 10 10' = -79 | count 1 = 0", "6x person 10 10 | basket 'wool' = 1",
+        "8x garment 0 | basket 'person 10 10' = 1");
   }
 
   private static void machineItems() {
     String degrees = "degrees and a NUMBER (20 to 95)";
     fault(degrees, "degrees 19", 8);
-    Edge.holds(degrees, "basket \"degrees 20\" = 1 \n now 1 = 20", "basket \"degrees 95\" = 1 \n now 1 = 95",
-        "basket \"degrees 95;degrees 96\" = -20 \n now 1 = 40");
+    Edge.holds(degrees, "basket 'degrees 20' = 1 | now 1 = 20", "basket 'degrees 95' = 1 | now 1 = 95",
+        "basket 'degrees 95;degrees 96' = -20 | now 1 = 40");
     fault(degrees, "degrees 96", 8);
     fault(degrees, "degrees 0", 8);
     fault(degrees, "degrees;none", 7);
     fault(degrees, "degrees 40 40", 11);
-    Edge.holds("towels or none", "basket \"towels\" = 1 \n now 2 = 1 \n basket \"towels\" = 1 \n now 2 = 1 \n basket \"none\" = 1"
-        + "\n now 2 = 0 \n basket \"none\" = 1 \n now 2 = 0", "basket \"towels;none\" = 2 \n now 2 = 0",
-        "basket \"none;towels\" = 2 \n now 2 = 1");
+    Edge.holds("towels or none", "basket 'towels' = 1 | now 2 = 1 | basket 'towels' = 1 | now 2 = 1 | basket 'none' = 1"
+        + " | now 2 = 0 | basket 'none' = 1 | now 2 = 0", "basket 'towels;none' = 2 | now 2 = 0",
+        "basket 'none;towels' = 2 | now 2 = 1");
     fault("towels or none", "towels 1", 7);
     fault("towels or none", "none 0", 5);
   }
@@ -313,19 +321,27 @@ public final class EdgeTextTest {
     fault(wash, "wool;wash", 9);
     fault(wash, "wool;wash wool", 10);
     fault(wash, "wool;wash;wool", 9);
-    Edge.holds(wash, "garment 2 \n basket \"wash 0\" = 1 \n of 0 1 = 98 \n of 0 4 = 3 \n basket \"wash 1\" = -6 \n basket \"wool;wash 1\" = 2"
-        + "\n of 1 4 = 3", "8x garment 0 \n basket \"wash 7\" = 1 \n now 3 = 128 \n basket \"wash 8\" = -6");
-    Edge.holds(wash + ", as the machine is by then", "basket \"wool;degrees 60;wash 0;degrees 20\" = 4 \n of 0 1 = 90 \n of 0 3 = 13",
-        "machine 0 60 \n basket \"jumper;wash 0;towels;wash 0\" = 4 \n of 0 1 = 72 \n of 0 3 = 21",
-        "basket \"silk size 19 200;degrees 61;wash 0\" = 3 \n of 0 1 = 10 \n of 0 2 = 100",
-        "basket \"sock thick 98;wash 0\" = 2 \n of 0 3 = 99");
+    Edge.holds(wash, """
+        garment 2
+        basket 'wash 0' = 1
+        of 0 1 = 98
+        of 0 4 = 3
+        basket 'wash 1' = -6
+        basket 'wool;wash 1' = 2
+        of 1 4 = 3
+        """, "8x garment 0 | basket 'wash 7' = 1 | now 3 = 128 | basket 'wash 8' = -6");
+    Edge.holds(wash + ", as the machine is by then",
+        "basket 'wool;degrees 60;wash 0;degrees 20' = 4 | of 0 1 = 90 | of 0 3 = 13",
+        "machine 0 60 | basket 'jumper;wash 0;towels;wash 0' = 4 | of 0 1 = 72 | of 0 3 = 21",
+        "basket 'silk size 19 200;degrees 61;wash 0' = 3 | of 0 1 = 10 | of 0 2 = 100",
+        "basket 'sock thick 98;wash 0' = 2 | of 0 3 = 99");
   }
 
   private static void endsTooEarly() {
     String[] texts = {
-      "", " ", "wool;", "wool; ", "wool size", "wool size ", "wool size 10", "wool size 10 ", "wool thick", "wool thick  ", "person",
-      "person ", "person 10", "person 10   ", "degrees", "degrees ", "wash", "wash ", "none;", "towels; ", "person 10 10;",
-      "wool size 10 10 thick"
+      "", " ", "wool;", "wool; ", "wool size", "wool size ", "wool size 10", "wool size 10 ", "wool thick", "wool thick  ",
+      "person", "person ", "person 10", "person 10   ", "degrees", "degrees ", "wash", "wash ", "none;", "towels; ",
+      "person 10 10;", "wool size 10 10 thick"
     };
     for (String text : texts) {
       fault("FAULT: how many bytes there are if it ends too early", text, text.length());
