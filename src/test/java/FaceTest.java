@@ -6,7 +6,9 @@ import java.lang.reflect.Modifier;
 import java.nio.charset.StandardCharsets;
 import java.nio.file.Files;
 import java.nio.file.Path;
+import java.util.ArrayList;
 import java.util.HashSet;
+import java.util.List;
 import java.util.Set;
 import java.util.TreeSet;
 import java.util.regex.Matcher;
@@ -23,12 +25,25 @@ public final class FaceTest {
     "int book(int,int)", "int read(int,int)", "int image()", "int undo()", "int tear()", "int count(int)", "int status(int)"
   };
 
+  /** What the interface says ahead of calls, and the calls behind it, as the document tells them. */
+  private static final String[] INTERFACE = {
+    "---- the machine", "machine", "now",
+    "---- garments", "garment", "of", "set", "wash", "draw", "turn", "as",
+    "---- people", "person", "size", "fits",
+    "---- days", "days", "on", "again", "washes",
+    "---- what is best", "warmest", "pull", "kind", "dressed", "shortest",
+    "---- the text", "feed", "wipe", "basket",
+    "---- sheets", "sheet", "write", "copy", "lays", "book", "read",
+    "---- images", "image", "undo", "tear", "count", "status"
+  };
+
   public static void main(String[] args) throws IOException {
     faceIsTheDocuments();
     noOtherNameIsUsedAgain();
     classesInside();
     Path source = Path.of(System.getProperty("feltedwash.source", "src/main/java/FeltedWash.java"));
     String text = Files.readString(source, StandardCharsets.ISO_8859_1);
+    interfaceSays(text);
     onlyPlainSigns(text);
     noForbiddenWords(bare(text));
     methodsStayShort(text);
@@ -54,6 +69,25 @@ public final class FaceTest {
     for (Field f : FeltedWash.class.getDeclaredFields()) {
       Due.that(f.getName() + " is private", Modifier.isPrivate(f.getModifiers()));
     }
+  }
+
+  /** Headings and public calls in the order of the file; a heading with no public call behind it is not of the interface. */
+  private static void interfaceSays(String text) {
+    List<String> is = new ArrayList<>();
+    String heading = "";
+    Matcher line = Pattern.compile("(?m)^  (?:// (---- .*)|public (?:int|long) (\\w+)\\(.*)$").matcher(text);
+    while (line.find()) {
+      if (line.group(1) != null) {
+        heading = line.group(1).trim();
+        continue;
+      }
+      if (!heading.isEmpty()) {
+        is.add(heading);
+        heading = "";
+      }
+      is.add(line.group(2));
+    }
+    Due.that("the interface says ahead of which calls: " + is, is.equals(List.of(INTERFACE)));
   }
 
   private static String told(Method m) {
